@@ -328,7 +328,9 @@ public final class DetentCabinet {
         }
 
         static int compared(int kind, long a, long b) {
-            return Long.compare(rank(kind, a), rank(kind, b));
+            long rankOfA = rank(kind, a);
+            long rankOfB = rank(kind, b);
+            return rankOfA > rankOfB ? 1 : rankOfA < rankOfB ? -1 : 0;
         }
 
         static long greater(int kind, long a, long b) {

@@ -272,8 +272,10 @@ public final class PromisesTest {
         due("signed of -0.0", x.look(3, 0), d(-3));
         due("size of -0.0", x.look(4, 0), d(0.0));
         due("no move, no rods", x.set(0, d(-0.0)), 0);
+        due("rods: 0.0 has the other one", x.set(0, d(0.0)), 2);
+        due("signed of 0.0", x.look(3, 0), d(3));
         due("the ends of rods give nothing", x.set(4, d(11)), 1);
-        due("moves in all", x.count(3), 16);
+        due("moves in all", x.count(3), 18);
     }
 
     private static void promise4RodsInOrder() {
@@ -290,6 +292,17 @@ public final class PromisesTest {
         due("ring 1", x.look(1, 0), 4);
         due("ring 2", x.look(2, 0), 4);
         due("ring back", x.back(), 3);
+
+        DetentCabinet w = new DetentCabinet();
+        wideFloat(w);
+        wideFloat(w);
+        w.set(1, f(3f));
+        w.rod(2, 0, 1);
+        w.rod(3, 1, 0);
+        // 0 to -5, 1 to -3, 0 to 3; rod 0 would now make 1 a 3, but was gone along.
+        due("a rod is gone along once", w.set(0, f(-5f)), 3);
+        due("once 0", w.look(0, 0), f(3f));
+        due("once 1", w.look(1, 0), f(-3f));
 
         DetentCabinet y = new DetentCabinet();
         wideInt(y);
