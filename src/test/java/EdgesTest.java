@@ -115,7 +115,7 @@ public final class EdgesTest {
         holds("in this call: in the next one again", EdgesTest::rodsAgainInTheNextCall);
         holds("GETS what the ROD GIVES then", EdgesTest::givesThen);
         holds("(all that comes of that first, then the next ROD)", EdgesTest::depthFirst);
-        holds("a chain of all 24 RODS", EdgesTest::chainOfAllRods);
+        holds("a chain of all 24 RODS", EdgesTest::goesAlongAllRods);
     }
 
     private static void termsOfSteps() {
@@ -212,7 +212,11 @@ public final class EdgesTest {
     private static void holds(String words, Runnable test) {
         sentence = words;
         sentences++;
-        test.run();
+        try {
+            test.run();
+        } catch (RuntimeException | StackOverflowError thrown) {
+            tell(thrown + " was thrown");
+        }
     }
 
     private static void due(String call, long got, long want) {
@@ -415,7 +419,7 @@ public final class EdgesTest {
     }
 
     private static void the512thCallOfMostMoves() {
-        Asked c = ringOfAllRods();
+        Asked c = chainOfAllRods();
         for (int i = 0; i < 235; i++) {
             c.set(25, 0, i % 2 == 0 ? -5 : -6).back(16);
         }
@@ -423,11 +427,17 @@ public final class EdgesTest {
         due("calls of this run", c.calls, 512);
     }
 
-    /** A chain of sizes round all dials and on to dial 8: set(0, -5) goes along every rod. */
-    private static Asked ringOfAllRods() {
-        Asked c = new Asked().wide(INT, 15).dial(15, INT, -4, 4);
+    /**
+     * A chain of sizes from 0 to 9, back to 0, to 8 once more and on to 15: set(0, -5) goes along
+     * every rod, each behind the one ahead of it. Dial 9 makes 4 of 5, so the second time moves.
+     */
+    private static Asked chainOfAllRods() {
+        Asked c = new Asked().wide(INT, 9).dial(9, INT, -4, 4).wide(INT, 6);
+        int from = 0;
         for (int i = 0; i < 24; i++) {
-            c.rod(i, SIZE, i % 16, (i + 1) % 16);
+            int to = i == 9 ? 0 : i < 9 ? i + 1 : i < 18 ? i - 9 : i - 8;
+            c.rod(i, SIZE, from, to);
+            from = to;
         }
         return c;
     }
@@ -844,9 +854,9 @@ public final class EdgesTest {
             .rod(1, SIZE, 0, 2).rod(2, LESS, 1, 2).set(4, 0, f(-1f)).values(f(-1f), f(-1f), f(1f));
     }
 
-    private static void chainOfAllRods() {
-        Asked c = ringOfAllRods();
-        c.set(25, 0, -5).values(4, 4, 4, 4, 4, 4, 4, 4, 4, 5, 5, 5, 5, 5, 5, 4);
+    private static void goesAlongAllRods() {
+        Asked c = chainOfAllRods();
+        c.set(25, 0, -5).values(4, 4, 4, 4, 4, 4, 4, 4, 4, 4, 4, 4, 4, 4, 4, 4);
         c.count(25, 3).count(1, 2).back(16).values(0, 0, 0, 0, 0, 0, 0, 0, 0, 0, 0, 0, 0, 0, 0, 0);
     }
 
@@ -1177,7 +1187,7 @@ public final class EdgesTest {
             .set(3, 0, 2).set(0, 0, 2).set(1, 0, -2).set(3, 0, 3).count(8, 3);
         // The same dial moves twice in a call: both count.
         new Asked().wide(INT, 2).rod(0, SIZE, 0, 1).rod(1, SIZE, 1, 0).set(3, 0, -4).values(4, 4);
-        ringOfAllRods().set(25, 0, -5);
+        chainOfAllRods().set(25, 0, -5);
     }
 
     private static void setDial() {
@@ -1536,7 +1546,7 @@ public final class EdgesTest {
         // Moves there and back in one call: 3 moves, one other value.
         new Asked().wide(INT, 1).dial(1, INT, -9, 9).set(1, 0, 3).rod(0, SIZE, 0, 1)
             .rod(1, SIZE, 1, 0).set(3, 0, -3).values(3, 3).back(1).values(3, 0);
-        ringOfAllRods().set(25, 0, -5).back(16);
+        chainOfAllRods().set(25, 0, -5).back(16);
     }
 
     private static void backOfNoOthers() {

@@ -35,11 +35,48 @@ public final class ModelTest {
         }
     }
 
-    /** What is answered after the 512th call is free, but it may not throw. */
+    /** What is answered after the 512th call is free, so nothing is asked but that none throws. */
     private static void callsBeyondTheLast() {
-        Run run = new Run(1);
+        Random random = new Random(3);
+        DetentCabinet x = new DetentCabinet();
         for (int call = 0; call < 200_000; call++) {
-            run.callBoth();
+            anyCall(x, random);
+        }
+    }
+
+    private static void anyCall(DetentCabinet x, Random random) {
+        int a = random.nextInt(18) - 1;
+        int b = random.nextInt(18) - 1;
+        int small = random.nextInt(7) - 1;
+        long number = random.nextLong() >> random.nextInt(64);
+        switch (random.nextInt(9)) {
+            case 0:
+                x.dial(small, -number, number);
+                break;
+            case 1:
+                x.rod(small, a, b);
+                break;
+            case 2:
+                x.turn(a, small);
+                break;
+            case 3:
+                x.take(a, b, small);
+                break;
+            case 4:
+                x.back();
+                break;
+            case 5:
+                x.order(a, b);
+                break;
+            case 6:
+                x.look(a, small);
+                break;
+            case 7:
+                x.count(small);
+                break;
+            default:
+                x.set(a, number);
+                break;
         }
     }
 
