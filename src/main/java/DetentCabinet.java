@@ -297,7 +297,7 @@ public final class DetentCabinet {
 
     /**
      * The arithmetic of the four kinds, all on the longs that stand for the numbers. Reals are
-     * worked on by their bits: so -0.0 stays apart from 0.0, and no step of it can be inexact.
+     * worked on by their bits: so -0.0 stays apart from 0.0, and nothing is ever rounded unasked.
      */
     private static final class Numbers {
         private static final long FLOAT_SIZE_BITS = 0x7fffffffL;
@@ -314,7 +314,7 @@ public final class DetentCabinet {
         }
 
         static boolean isOfKind(int kind, long number) {
-            boolean isInt = number >= Integer.MIN_VALUE && number <= Integer.MAX_VALUE;
+            boolean isInt = number == (int) number;
             switch (kind) {
                 case KIND_INT:
                     return isInt;
